@@ -72,12 +72,15 @@ final class CodeTest {
         left[31] = 2;
         StreamWriter room = upToLetterCode(3).lengths(left);
         CHECK.wrong("room left", new StreamWriter().append(room).number(0, 24), room.size());
+        int[] word = java.util.Arrays.copyOf(new int[] {1, 2, 3, 4, 5, 6, 7}, 32);
+        StreamWriter little = upToLetterCode(3).lengths(word);
+        CHECK.wrong("room left for one word", new StreamWriter().append(little).number(0, 24), little.size());
         StreamWriter none = upToLetterCode(3).lengths(new int[32]);
         CHECK.wrong("no symbol at all", new StreamWriter().append(none).number(0, 24), none.size());
         int[] sevens = new int[32];
         java.util.Arrays.fill(sevens, 7);
-        StreamWriter little = upToLetterCode(3).lengths(sevens);
-        CHECK.wrong("much room left", new StreamWriter().append(little).number(0, 24), little.size());
+        StreamWriter much = upToLetterCode(3).lengths(sevens);
+        CHECK.wrong("much room left", new StreamWriter().append(much).number(0, 24), much.size());
         StreamWriter cut = upToLetterCode(3).lengths(1, 2);
         CHECK.wrong("a length lacks a bit", new StreamWriter().append(cut).word("11"), cut.size());
     }

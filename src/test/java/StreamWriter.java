@@ -1,4 +1,5 @@
 import java.util.ArrayList;
+import java.util.Arrays;
 import java.util.List;
 
 /** Writes streams for the tests, and keeps which bits are wanted together. */
@@ -43,7 +44,7 @@ final class StreamWriter {
     /** A run of n letters of the same kind in a plain block. */
     StreamWriter plainRun(int letter, int n) {
         int[] letters = new int[n];
-        java.util.Arrays.fill(letters, letter);
+        Arrays.fill(letters, letter);
         return plain(letters);
     }
 
