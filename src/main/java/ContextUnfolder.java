@@ -351,7 +351,9 @@ public final class ContextUnfolder {
             for (int k = 0; k < entries; k++) {
                 int place = map[k];
                 int meant = row[place];
-                System.arraycopy(row, 0, row, 1, place);
+                for (int j = place; j > 0; j--) {
+                    row[j] = row[j - 1];
+                }
                 row[0] = meant;
                 map[k] = meant;
             }
