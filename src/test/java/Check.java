@@ -54,6 +54,14 @@ final class Check {
         refused(what + ": letter(0)", IndexOutOfBoundsException.class, () -> x.letter(0));
     }
 
+    /** The stream is wrong right behind these bits, whatever stands behind them. */
+    void wrongAtOnce(String what, StreamWriter stream) {
+        int taken = stream.size();
+        wrong(what, stream, taken);
+        wrong(what + ", 0s behind", new StreamWriter().append(stream).number(0, 24), taken);
+        wrong(what + ", 1s behind", new StreamWriter().append(stream).number(16777215, 24), taken);
+    }
+
     void counts(String what, ContextUnfolder x, int... due) {
         for (int k = 0; k < due.length; k++) {
             equal(what + ": count(" + k + ")", x.count(k), due[k]);
